@@ -16,8 +16,9 @@ public final class LanguageTest {
         "\\bprotected\\b", "Exact\\b", "\\bobject\\b", "\\bObject\\b", "\\.(equals|hashCode|toString)\\b",
         "\\b(Random|Thread|File|System\\.(?!arraycopy\\b))", "\\bwhile\\s*\\(\\s*true", "\\bfor\\s*\\(\\s*;"};
     private static final Set<String> METHODS = Set.of("set int int", "piece int int int int", "plate int", "hold int",
-        "kill int", "pass int", "ofPiece int int", "ofPlate int int", "count int", "why int int", "plateNow", "readyIn int",
-        "leastRoom", "nextPlate", "put long", "wipe", "fault", "carryOut", "undo", "save int", "restore int");
+        "kill int", "pass int", "ofPiece int int", "ofPlate int int", "count int", "why int int", "plateNow",
+        "readyIn int", "leastRoom", "nextPlate", "put long", "wipe", "fault", "carryOut", "undo", "save int",
+        "restore int");
     private static final String[] CONSTANTS = {"NO_SUCH", "BAD_VALUE", "BAD_TEXT", "TOO_MANY", "NOT_POSSIBLE", "NONE",
         "EDIT", "LEGAL", "ROOM", "DELAY"};
     private static final int[] VALUES = {-1, -2, -3, -4, -5, -6, 0, 1, 2, 3};
